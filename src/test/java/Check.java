@@ -4,6 +4,10 @@ final class Check {
         long answer();
     }
 
+    interface GateCall {
+        long answer(SessionGate gate);
+    }
+
     private static int wrong = 0;
     private static int looked = 0;
 
@@ -31,10 +35,11 @@ final class Check {
         }
     }
 
-    /** The call throws that exception and changes nothing that can be seen of the gate. */
-    static void refuses(String what, SessionGate gate, String exception, Call call) {
+    /** The call throws that exception, and changes nothing that can be seen of a busy gate. */
+    static void refuses(String what, String exception, GateCall call) {
+        SessionGate gate = GateView.busyGate();
         String before = GateView.everything(gate);
-        due(what, outcome(call), "throws." + exception);
+        due(what, outcome(() -> call.answer(gate)), "throws." + exception);
         due("the state behind " + what, GateView.everything(gate), before);
     }
 

@@ -3,10 +3,30 @@ final class GateView {
     private GateView() {
     }
 
+    /** A gate with sessions, keys, counts and texts that differ from those of a new one. */
+    static SessionGate busyGate() {
+        SessionGate gate = new SessionGate();
+        gate.seed(7);
+        gate.user(0, 1, 2);
+        gate.user(7, 3, 4);
+        gate.request(false);
+        gate.login(0, 1, 2);
+        gate.pass(10);
+        gate.login(7, 3, 4);
+        gate.change(1, 2, 3, 4);
+        gate.pass(10);
+        gate.request(true);
+        return gate;
+    }
+
     static String text(SessionGate gate, int which) {
         StringBuilder text = new StringBuilder();
-        for (int k = 0; k < 41 && gate.sign(which, k) != SessionGate.NONE; k++) {
-            text.append((char) gate.sign(which, k));
+        for (int k = 0; k < 41; k++) {
+            int sign = gate.sign(which, k);
+            if (sign == SessionGate.NONE) {
+                break;
+            }
+            text.append((char) sign);
         }
         return text.toString();
     }
@@ -39,9 +59,7 @@ final class GateView {
         for (int what = 0; what < 7; what++) {
             all.append(gate.count(what)).append(' ');
         }
-        for (int k = 0; k < 32; k++) {
-            all.append(gate.octet(k)).append(' ');
-        }
+        all.append(gate.octet(0));
         return all.toString();
     }
 }
