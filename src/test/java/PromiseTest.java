@@ -341,6 +341,9 @@ public final class PromiseTest {
         dueForm(good + "A", SessionGate.FORM);
         dueForm(good + "AAAAAAAAAA", SessionGate.FORM);
         dueForm(good, 0);
+        for (int at = 0; at < 30; at++) {
+            dueForm(good.substring(0, at) + "=" + good.substring(at + 1), SessionGate.FORM);
+        }
         String coding = "ABCDEFGHIJKLMNOPQRSTUVWXYZabcdefghijklmnopqrstuvwxyz0123456789-_";
         for (char sign = 1; sign < 256; sign++) {
             boolean coded = coding.indexOf(sign) >= 0;
@@ -681,9 +684,10 @@ public final class PromiseTest {
         gate.request(false);
         gate.logout();
         gate.login(3, 5, 6);
+        gate.request(false);
+        dueCounts("session 0 let in", gate, 1, 1, 1, 2, 0, 1, 0);
         gate.login(3, 5, 6);
         gate.login(3, 5, 6);
-        gate.request(true);
         gate.change(1, 2, 3, 4);
         gate.request(true);
         gate.logout();
