@@ -3,22 +3,6 @@ final class GateView {
     private GateView() {
     }
 
-    /** A gate with sessions, keys, counts and texts that differ from those of a new one. */
-    static SessionGate busyGate() {
-        SessionGate gate = new SessionGate();
-        gate.seed(7);
-        gate.user(0, 1, 2);
-        gate.user(7, 3, 4);
-        gate.request(false);
-        gate.login(0, 1, 2);
-        gate.pass(10);
-        gate.login(7, 3, 4);
-        gate.change(1, 2, 3, 4);
-        gate.pass(10);
-        gate.request(true);
-        return gate;
-    }
-
     static String text(SessionGate gate, int which) {
         StringBuilder text = new StringBuilder();
         for (int k = 0; k < 41; k++) {
@@ -29,6 +13,10 @@ final class GateView {
             text.append((char) sign);
         }
         return text.toString();
+    }
+
+    static String texts(SessionGate gate) {
+        return text(gate, 0) + " " + text(gate, 1);
     }
 
     static void write(SessionGate gate, int which, String text) {
@@ -47,19 +35,45 @@ final class GateView {
         return number;
     }
 
-    static String everything(SessionGate gate) {
+    static String sessions(SessionGate gate) {
         StringBuilder all = new StringBuilder();
-        all.append(text(gate, 0)).append('|').append(text(gate, 1)).append('|');
         for (int number = 0; number < 8; number++) {
             for (int what = 0; what < 4; what++) {
                 all.append(gate.session(number, what)).append(' ');
             }
         }
-        all.append('|');
+        return all.toString();
+    }
+
+    static String counts(SessionGate gate) {
+        StringBuilder all = new StringBuilder();
         for (int what = 0; what < 7; what++) {
             all.append(gate.count(what)).append(' ');
         }
-        all.append(gate.octet(0));
         return all.toString();
+    }
+
+    /** All that the face shows of a gate now. */
+    static String seen(SessionGate gate) {
+        return texts(gate) + "|" + sessions(gate) + "|" + counts(gate) + "|" + gate.octet(0);
+    }
+
+    /**
+     * All of a busy gate, the time, limits, seed and passwords too, which only later answers show: the
+     * times that pass here meet each limit of Gates.busy just before it is reached and as it is.
+     */
+    static String everything(SessionGate gate) {
+        StringBuilder all = new StringBuilder(seen(gate));
+        all.append('|').append(gate.pass(89)).append(' ').append(gate.count(5));
+        all.append(' ').append(gate.pass(1)).append(' ').append(gate.count(5));
+        all.append(' ').append(gate.pass(59)).append(' ').append(gate.request(false));
+        all.append(' ').append(gate.pass(40)).append(' ').append(gate.request(false));
+        all.append(' ').append(gate.pass(1)).append(' ').append(gate.request(false));
+        for (int user = 0; user < 8; user++) {
+            all.append(' ').append(gate.login(user, 0, 0));
+        }
+        all.append(' ').append(gate.login(7, 3, 4)).append(' ').append(gate.login(0, 1, 2));
+        all.append(' ').append(gate.pass(150)).append(' ').append(gate.request(true));
+        return all.append('|').append(seen(gate)).toString();
     }
 }

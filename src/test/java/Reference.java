@@ -47,6 +47,11 @@ final class Reference {
         return coded(Arrays.copyOf(mac(key, marked), 9));
     }
 
+    /** What GateView.texts shows of a gate that bears these. */
+    static String texts(int keyNumber, byte[] key, int user, long id) {
+        return cookie(keyNumber, key, user, id) + " " + token(keyNumber, key, user, id);
+    }
+
     static String coded(byte[] bytes) {
         return Base64.getUrlEncoder().withoutPadding().encodeToString(bytes);
     }
