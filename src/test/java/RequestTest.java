@@ -343,6 +343,16 @@ public final class RequestTest {
         Check.due("its own token", gate.request(true), 0);
     }
 
+    @Sentence(promise = 8, says = "WRONG: it is to change something, and TEXT 1 is not the TOKEN")
+    static void theTokenWhereALongerTextWas() {
+        SessionGate gate = Gates.withSession();
+        GateView.write(gate, 0, "x".repeat(40));
+        GateView.write(gate, 1, "x".repeat(40));
+        GateView.write(gate, 0, COOKIE);
+        GateView.write(gate, 1, TOKEN);
+        Check.due("request", gate.request(true), 0);
+    }
+
     @Sentence(promise = 8, says = "it is to change something")
     static void withoutChangesTheTokenIsFree() {
         for (String token : new String[] {"", TOKEN.substring(1), "\u0001", TOKEN + "A"}) {
