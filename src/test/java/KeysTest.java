@@ -126,6 +126,15 @@ public final class KeysTest {
         Check.due("the texts", GateView.texts(gate), Reference.texts(5, Reference.ZERO_KEY, Gates.USER, ID));
     }
 
+    @Sentence(promise = 5, says = "the new one's bytes, four in each number; its number.")
+    static void answersTheNewOnesNumber() {
+        SessionGate gate = Gates.busy();
+        for (int change = 0; change < 6; change++) {
+            Check.due("change", gate.change(-change, change, 0, 77), gate.count(6));
+        }
+        Check.due("the last one's number", gate.count(6), 7);
+    }
+
     @Sentence(promise = 5, says = "a new KEY is the NEWEST")
     static void sameBytesAreANewKey() {
         SessionGate gate = Gates.withSession();

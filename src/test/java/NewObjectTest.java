@@ -4,7 +4,7 @@ public final class NewObjectTest {
         Sentences.run(NewObjectTest.class);
     }
 
-    @Sentence(promise = 1, says = "NOW 0 at first")
+    @Sentence(promise = 1, says = "TIMES are milliseconds, NOW 0 at first.")
     static void nowIs0() {
         Check.due("now behind pass(1)", new SessionGate().pass(1), 1);
         SessionGate gate = Gates.withSession();
@@ -116,7 +116,7 @@ public final class NewObjectTest {
         Check.due("the busy one", GateView.seen(other), busy);
     }
 
-    @Sentence(promise = 1, says = "at most 512 calls")
+    @Sentence(promise = 1, says = "An object is used for at most 512 calls after it has been made")
     static void the512thCall() {
         SessionGate gate = Gates.withSession();
         for (int call = 3; call <= 511; call++) {

@@ -77,6 +77,16 @@ public final class TextsTest {
         }
     }
 
+    @Sentence(promise = 11, says = "How many it has.")
+    static void typeAnswersTheWholeLength() {
+        SessionGate gate = new SessionGate();
+        for (int length = 1; length <= 40; length++) {
+            Check.due("one more in text 1", gate.type(1, 0, 0x41, 0, 0), length);
+        }
+        Check.due("three in the other one", gate.type(0, 0x00414243, 0, 0, 0), 3);
+        Check.due("none more", gate.type(1, 0, 0, 0, 0), 40);
+    }
+
     @Sentence(promise = 11, says = "IllegalState: it would have more than 40.")
     static void typeUpTo40() {
         dueTyped(24, "ABCDABCDABCDABCD", FOUR, FOUR, FOUR, FOUR);
