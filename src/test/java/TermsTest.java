@@ -1,6 +1,6 @@
 /**
- * The document's terms, with answers that are written out: they come from RFC 4231 and from a
- * computation outside Java, so that a fault which Reference shared with the program would show.
+ * The document's terms. The MACs, ids, cookies and tokens that are written out here come from RFC 4231
+ * or from a computation outside Java, so that a fault which Reference shared with the program would show.
  */
 public final class TermsTest {
     private static final long SEED = 0x0102030405060708L;
